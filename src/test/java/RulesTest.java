@@ -10,6 +10,7 @@ public final class RulesTest {
         ticks();
         ranks();
         bars();
+        tenRules();
         DUE.end();
     }
 
@@ -165,6 +166,20 @@ public final class RulesTest {
         DUE.is("10: by the latest, not the greatest", x.rank(1), 3);
         DUE.is("10: beyond", x.rank(2), NewsWire.BEYOND);
         DUE.is("10: below", x.rank(-1), NewsWire.BEYOND);
+    }
+
+    private static void tenRules() {
+        Desk d = new Desk();
+        d.piece(Desk.TAKE, 0, 0, 1);
+        for (int i = 0; i < 9; i++) {
+            d.rule("cost 3");
+        }
+        d.rule("bar 7");
+        DUE.is("10: no rank among ten", d.wire.rank(0), 5);
+        DUE.is("11: barred by the tenth", d.wire.barred(0, 7), 1);
+        DUE.is("11: by none of ten", d.wire.barred(0, 6), 0);
+        DUE.is("9: the tenth", d.wire.holds(9, 0, 7), 1);
+        DUE.is("9: no eleventh", d.wire.holds(10, 0, 7), NewsWire.BEYOND);
     }
 
     private static void bars() {

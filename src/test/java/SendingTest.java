@@ -15,6 +15,7 @@ public final class SendingTest {
         costs();
         firsts();
         quietTicks();
+        sixWires();
         DUE.end();
     }
 
@@ -261,6 +262,23 @@ public final class SendingTest {
         e.wire.file(early, 0);
         e.wire.run(2);
         DUE.is("18: the earlier of two", e.wire.first(0, 0), 0);
+    }
+
+    private static void sixWires() {
+        Desk d = new Desk();
+        NewsWire x = d.wire;
+        int a = d.piece(Desk.TAKE, 0, 0, 1, 2, 3);
+        for (int i = 0; i < 6; i++) {
+            x.wire(0, 1 << i, 1);
+            x.file(a, i);
+        }
+        x.garble(5, 0);
+        DUE.is("14: all but the garbled one", x.run(1), 5);
+        DUE.is("14: all six", x.run(2), 12);
+        DUE.is("14: the last one", x.run(9), 1);
+        DUE.is("16: by the sixth wire", x.since(a, 5), 3);
+        DUE.is("16: by the fifth wire", x.since(a, 4), 2);
+        DUE.is("15: on the sixth wire", x.sent(a, 5, 1), 3);
     }
 
     private static void quietTicks() {

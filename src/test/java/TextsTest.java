@@ -102,6 +102,9 @@ public final class TextsTest {
         DUE.is("19: the lead of the greatest number", x.text(0, 2, 2), newer);
         is("20: the lead comes first", d.text(0, 2), "91 92 1");
         DUE.is("19: ahead of it none", x.text(0, 0, 2), NewsWire.NONE);
+        Desk e = deskWithWire(1);
+        e.send(e.piece(Desk.LEAD, 0, 0, 1), 0);
+        DUE.is("19: piece 0 can be a lead", e.wire.text(0, 0, 2), 0);
         d.row(1);
         int other = x.piece(110, 101, 0, 0);
         d.send(other, 0);
@@ -253,6 +256,9 @@ public final class TextsTest {
         DUE.is("20: the last word", x.read(0, x.count(0), 479), 12);
         DUE.is("21: the last word", x.from(0, x.count(0), 479), 38);
         DUE.is("22: all of it", x.edition(0), 480);
+        DUE.is("23: none of forty behind", x.printed(0, 2), 0);
+        DUE.is("23: no least of forty", x.printed(0, 3), NewsWire.NONE);
+        DUE.is("18: the first of forty", x.first(0, 0), 1);
     }
 
     private static void editions() {
@@ -389,6 +395,17 @@ public final class TextsTest {
         DUE.is("25: all twelve", f.wire.plan(), 4095);
         DUE.is("24: a word short", f.wire.worth(0, 15), 110);
         DUE.is("25: the first eleven", f.wire.plan(), 2047);
+        f.rule("rank 2");
+        DUE.is("24: all twelve, anew", f.wire.worth(0, 1000), 36);
+        DUE.is("25: all twelve, anew", f.wire.plan(), 4095);
+        Desk g = new Desk();
+        g.wire.wire(0, 1, 3);
+        g.wire.file(g.ranked(Desk.TAKE, 5, 0, 0, 1, 2, 3), 0);
+        g.wire.file(g.ranked(Desk.TAKE, 8, 0, 0, 1, 2), 0);
+        g.wire.file(g.ranked(Desk.TAKE, 2, 0, 0, 1), 0);
+        g.wire.file(g.ranked(Desk.TAKE, 1, 0, 0, 1, 2), 0);
+        DUE.is("24: a greater set with a greater sum", g.wire.worth(0, 1), 12);
+        DUE.is("25: the second and the third", g.wire.plan(), 6);
     }
 
     private static void counts() {

@@ -1147,20 +1147,15 @@ public final class NewsWire {
             sums[0] = 0;
         }
 
+        /** Each bit offered is greater than those before: what is kept of two alike is the lesser set. */
         void offer(int bit, int words, int gain) {
             // from above, so that what is offered is not taken twice
             for (int all = WORDS_MOST; all >= words; all--) {
                 int without = sums[all - words];
-                if (without != NONE) {
-                    keepBetter(all, without + gain, sets[all - words] | bit);
+                if (without != NONE && without + gain > sums[all]) {
+                    sums[all] = without + gain;
+                    sets[all] = sets[all - words] | bit;
                 }
-            }
-        }
-
-        private void keepBetter(int words, int sum, int set) {
-            if (sum > sums[words] || sum == sums[words] && set < sets[words]) {
-                sums[words] = sum;
-                sets[words] = set;
             }
         }
 

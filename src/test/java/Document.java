@@ -2,6 +2,9 @@ import java.io.IOException;
 import java.nio.charset.StandardCharsets;
 import java.nio.file.Files;
 import java.nio.file.Path;
+import java.util.List;
+import java.util.regex.MatchResult;
+import java.util.regex.Pattern;
 
 /** The words of ../shared/DOC.md, so that a test can say which of them it is of. */
 final class Document {
@@ -34,6 +37,22 @@ final class Document {
         }
         int to = text.indexOf(" ## ", from);
         return text.substring(from, to < 0 ? text.length() : to).contains(plain(words));
+    }
+
+    /** The members of the public face, as the document writes them; none where it can't be read. */
+    List<String> face() {
+        int from = Math.max(0, text.indexOf("## The public face"));
+        int to = Math.max(from, text.indexOf(" ## ", from));
+        return found("public (?:static final int|NewsWire\\(|int )[^;]*", text.substring(from, to));
+    }
+
+    /** What the interface says ahead of its calls, in order. */
+    List<String> headings() {
+        return found("---- [a-z ]+", text);
+    }
+
+    private static List<String> found(String what, String in) {
+        return Pattern.compile(what).matcher(in).results().map(MatchResult::group).toList();
     }
 
     private static String plain(String words) {

@@ -24,7 +24,9 @@ public final class FormTest {
         constants();
         methods();
         classesInside();
-        String code = withoutCommentsAndTexts(Files.readString(SOURCE, StandardCharsets.US_ASCII));
+        String source = Files.readString(SOURCE, StandardCharsets.US_ASCII);
+        faceOfDocument(source);
+        String code = withoutCommentsAndTexts(source);
         words(code);
         methodLengths(code);
         DUE.end();
@@ -73,6 +75,22 @@ public final class FormTest {
             DUE.so(method.getName() + " takes seven at most", method.getParameterCount() <= 7);
         }
         DUE.so("the calls of the face: " + open, open.equals(new TreeSet<>(List.of(Calls.NAMES))));
+    }
+
+    /** Each line of the document's face stands in the file, in its order and under its heading, and no other public one. */
+    private static void faceOfDocument(String source) {
+        Document document = new Document();
+        List<String> due = document.face();
+        if (due.isEmpty()) {
+            return;
+        }
+        List<String> open = source.lines().map(String::strip)
+                .filter(line -> line.startsWith("public ") && !line.startsWith("public final class"))
+                .map(line -> line.replaceAll(" \\{$|;$", "")).toList();
+        DUE.is("the face", String.join("; ", open), String.join("; ", due));
+        List<String> headings = source.lines().map(String::strip).filter(line -> line.startsWith("// ---- "))
+                .map(line -> line.substring(3)).toList();
+        DUE.is("the headings", String.join("; ", headings), String.join("; ", document.headings()));
     }
 
     private static void classesInside() {

@@ -324,6 +324,16 @@ public final class RuleBoundsTest {
         DUE.is("a number beyond", d.rule("bar 8"), NewsWire.NO);
         DUE.is("its five bytes stay", d.wire.count(4), 5);
         DUE.is("no rule came", d.wire.count(3), 1);
+        Desk e = new Desk();
+        e.piece(Desk.TAKE, 0, 0, 1);
+        DUE.is("three tests and a fault", e.rule("bar 1 if kind>0 and kind>0 and kind>0x", 2, 3), -47);
+        DUE.is("three tests and a number beyond", e.rule("bar 8 if kind>0 and kind>0 and kind>0", 2, 3), NewsWire.NO);
+        DUE.is("then one with one test", e.rule("rank 9 if kind=0"), 0);
+        DUE.is("has nothing of these: it holds", e.wire.holds(0, 0, NewsWire.NONE), 1);
+        DUE.is("and gives the rank", e.wire.rank(0), 9);
+        DUE.is("a test and a fault", e.rule("cost 1 if kind>0 x"), -27);
+        DUE.is("then one with none", e.rule("rank 8"), 1);
+        DUE.is("it holds", e.wire.rank(0), 8);
     }
 
     private static void inForce() {
